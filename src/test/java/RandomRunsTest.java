@@ -8,7 +8,7 @@ import java.util.Random;
 
 /** Runs of calls, the same ones each time, answered by a StuckatBench and by Plain alike. */
 public final class RandomRunsTest {
-    private static final int RUNS = 700;
+    private static final int RUNS = 1500;
     private static final String[] NET_CALLS = {"input", "cell", "gate", "data", "output"};
     private static final Map<String, Method> REAL = new HashMap<>();
     private static final Map<String, Method> PLAIN = new HashMap<>();
@@ -85,11 +85,12 @@ public final class RandomRunsTest {
     private static boolean misuse(int many) throws Exception {
         boolean isTying = random.nextInt(3) == 0;
         String[] often = {"pattern", "pattern", "make", "testPoint", "slow", "bridge", "breakChip", "mend", "record",
-            "breakChain", "march", "shortWires", "core", "bad", "setTime", "setRing", "faulty", "foundBy", "finds"};
+            "breakChain", "march", "shortWires", "core", "begins", "got", "bad", "setTime", "setRing", "faulty", "foundBy", "finds"};
         for (int i = 0; i < many; i++) {
             String name = NAMES.get(random.nextInt(NAMES.size()));
             if (random.nextInt(3) == 0) name = often[random.nextInt(often.length)];
             if (isTying && random.nextInt(3) == 0) name = "tie";
+            if (name.equals("board") && random.nextInt(3) != 0) name = "openWire";
             if (name.equals("turnAbout") && random.nextInt(3) != 0) continue;
             if (name.equals("mergeAll") && random.nextInt(3) != 0) continue;
             if (!isSoundly(name)) return false;
@@ -180,8 +181,8 @@ public final class RandomRunsTest {
             case "got": case "sameAs": return new Object[] {small(8), pickOrWrong("ct")};
             case "badWires": return new Object[] {pickOrWrong("ct")};
             case "core": return new Object[] {1 + small(30), 1 + small(6), small(8)};
-            case "least": return new Object[] {5 + small(10), 6 + small(12)};
-            case "begins": return new Object[] {5 + small(10), 6 + small(12), small(6)};
+            case "least": return new Object[] {5 + small(4), 6 + small(5)};
+            case "begins": return new Object[] {5 + small(4), 6 + small(5), small(6)};
             default: return new Object[0];
         }
     }
