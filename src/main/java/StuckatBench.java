@@ -298,13 +298,7 @@ public final class StuckatBench {
             throw new ArithmeticException();
         }
         markFound(engine);
-        int reached = 0;
-        for (int fault = 0; fault < book.stuck; fault++) {
-            if (book.isFirst(fault) && words.found[fault] != 0) {
-                reached++;
-            }
-        }
-        return (float) reached / (float) many;
+        return (float) countFoundClasses() / (float) many;
     }
 
     /** Leaves in words.found, for each stuck fault, something else than 0 if the engine finds it. */
@@ -321,6 +315,16 @@ public final class StuckatBench {
                 lists.markFound(pattern, words.found);
             }
         }
+    }
+
+    private int countFoundClasses() {
+        int many = 0;
+        for (int fault = 0; fault < book.stuck; fault++) {
+            if (book.isFirst(fault) && words.found[fault] != 0) {
+                many++;
+            }
+        }
+        return many;
     }
 
     public double meanFound() throws ArithmeticException {
@@ -505,16 +509,6 @@ public final class StuckatBench {
             }
         }
         return now;
-    }
-
-    private int countFoundClasses() {
-        int many = 0;
-        for (int fault = 0; fault < book.stuck; fault++) {
-            if (book.isFirst(fault) && words.found[fault] != 0) {
-                many++;
-            }
-        }
-        return many;
     }
 
     public int weight(int line) throws IndexOutOfBoundsException, UnsupportedOperationException {
