@@ -1,29 +1,5 @@
-import java.util.NoSuchElementException;
-
 /** For each promise of the document: ordinary calls, the edges that it names, and wrong calls. */
-public final class PromisesTest {
-    private static final Class<?> ILLEGAL = IllegalArgumentException.class;
-    private static final Class<?> INDEX = IndexOutOfBoundsException.class;
-    private static final Class<?> UNSUPPORTED = UnsupportedOperationException.class;
-    private static final Class<?> STATE = IllegalStateException.class;
-    private static final Class<?> NO_ELEMENT = NoSuchElementException.class;
-    private static final Class<?> ARITHMETIC = ArithmeticException.class;
-    private static final int MIN = Integer.MIN_VALUE;
-    private static final int MAX = Integer.MAX_VALUE;
-    // z = (a and b) or c; faults: a 0 1, b 2 3, c 4 5, d = a and b 6 7, z 8 9.
-    private static final String AND_OR = "i i i a0,1 o3,2 !4";
-    // z = ((a and b) or (not a and b)) or b: what a is is of no meaning, so that 0 and 1 are impossible.
-    private static final String REDUNDANT = "i i v0 a0,1 a2,1 o3,4 o5,1 !6";
-    private static final String CHAIN = "i f f x0,1 n1,2 d1=3 d2=4";
-
-    private static int promise;
-    private static int checks;
-    private static int wrongs;
-
-    private interface Call {
-        Object answer();
-    }
-
+public final class PromisesTest extends Checks {
     public static void main(String[] args) {
         nets();
         patternsAndValues();
@@ -41,84 +17,7 @@ public final class PromisesTest {
         boards();
         cores();
         whole();
-        System.out.println(checks + " checks of the promises, " + wrongs + " wrong");
-        if (wrongs > 0) System.exit(1);
-    }
-
-    // ---- the means
-
-    private static void is(Object got, Object want) {
-        checks++;
-        if (!got.equals(want)) {
-            wrongs++;
-            StackTraceElement at = new Throwable().getStackTrace()[1];
-            System.out.println("promise " + promise + ", line " + at.getLineNumber() + ": answered " + got + ", due is " + want);
-        }
-    }
-
-    private static void throwsIt(Class<?> want, Call call) {
-        checks++;
-        Object got;
-        try {
-            got = call.answer();
-        } catch (RuntimeException e) {
-            got = e.getClass();
-        }
-        if (got != want) {
-            wrongs++;
-            StackTraceElement at = new Throwable().getStackTrace()[1];
-            System.out.println("promise " + promise + ", line " + at.getLineNumber() + ": " + got + ", due is " + want);
-        }
-    }
-
-    /** Lines from left to right: i, f, or a gate as a0,1; then data as d1=3 and outputs as !4. */
-    private static StuckatBench open(String text) {
-        StuckatBench x = new StuckatBench();
-        for (String word : text.split(" ")) {
-            String rest = word.substring(1);
-            String[] numbers = rest.split("[,=]");
-            if (word.equals("i")) {
-                x.input();
-            } else if (word.equals("f")) {
-                x.cell();
-            } else if (word.charAt(0) == 'd') {
-                x.data(Integer.parseInt(numbers[0]), Integer.parseInt(numbers[1]));
-            } else if (word.charAt(0) == '!') {
-                x.output(Integer.parseInt(rest));
-            } else {
-                int last = numbers.length > 1 ? Integer.parseInt(numbers[1]) : -5;
-                x.gate(word.charAt(0), Integer.parseInt(numbers[0]), last);
-            }
-        }
-        return x;
-    }
-
-    private static StuckatBench net(String text, String... patterns) {
-        StuckatBench x = open(text);
-        x.close();
-        for (String pattern : patterns) add(x, pattern);
-        return x;
-    }
-
-    /** A pattern as its sources are written from the source 0 on, ? being not known. */
-    private static int add(StuckatBench x, String sources) {
-        int known = 0;
-        int ones = 0;
-        for (int k = 0; k < sources.length(); k++) {
-            if (sources.charAt(k) != '?') known |= 1 << k;
-            if (sources.charAt(k) == '1') ones |= 1 << k;
-        }
-        return x.pattern(known, ones);
-    }
-
-    private static String row(StuckatBench x, int pattern, int sources) {
-        StringBuilder text = new StringBuilder();
-        for (int k = 0; k < sources; k++) {
-            boolean isKnown = (x.known(pattern, false) >> k & 1) != 0;
-            boolean isOne = (x.known(pattern, true) >> k & 1) != 0;
-            text.append(!isKnown ? '?' : isOne ? '1' : '0');
-        }
-        return text.toString();
+        end();
     }
 
     // ---- promises 1 to 8
@@ -1319,12 +1218,6 @@ public final class PromisesTest {
     }
 
     // ---- promises 54 to 58
-
-    private static StuckatBench marching(String signs) {
-        StuckatBench x = new StuckatBench();
-        for (char sign : signs.toCharArray()) x.march(sign);
-        return x;
-    }
 
     private static void marches() {
         promise = 54;
