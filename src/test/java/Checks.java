@@ -22,6 +22,8 @@ abstract class Checks {
     private static final Set<Class<?>> TOLD_OF = Set.of(ILLEGAL, INDEX, UNSUPPORTED, STATE, NO_ELEMENT, ARITHMETIC);
     private static final Map<Scene, String[]> TOLD = new IdentityHashMap<>();
 
+    private static int toldOf;
+
     static int promise;
     static String sentence = "";
     static int tests;
@@ -66,11 +68,13 @@ abstract class Checks {
 
     /** The call is refused, and all that the other methods tell is behind it as it is without it. */
     static void refused(Class<?> want, Scene scene, CallOn call) {
-        throwsIt(want, () -> call.answer(scene.built()));
+        throwsIt(want, () -> call.answer(amid(scene)));
         checks++;
-        String[] without = TOLD.computeIfAbsent(scene, Told::by);
+        if (promise != toldOf) TOLD.clear();
+        toldOf = promise;
+        String[] without = TOLD.computeIfAbsent(scene, each -> Told.by(() -> amid(each)));
         String[] with = Told.by(() -> {
-            StuckatBench x = scene.built();
+            StuckatBench x = amid(scene);
             answerOf(() -> call.answer(x));
             return x;
         });
@@ -80,6 +84,42 @@ abstract class Checks {
                 return;
             }
         }
+    }
+
+    private static boolean isPromise(int from, int to) {
+        return promise >= from && promise <= to;
+    }
+
+    /** The scene, and all that its promise does not tell of, so that a change of that is seen, too. */
+    static StuckatBench amid(Scene scene) {
+        StuckatBench x = scene.built();
+        if (isPromise(54, 69)) {
+            build(x, CHAIN);
+            x.close();
+            for (String row : new String[] {"110", "0?1", "011"}) add(x, row);
+            x.bridge('w', 0, 1);
+            x.slow(2, true);
+            x.setTime(1, 4);
+        }
+        if (!isPromise(32, 36)) x.setRing(5, 20);
+        // Where there is no such fault or cell, these are refused.
+        if (!isPromise(40, 46)) {
+            answerOf(() -> x.breakChip(0));
+            answerOf(() -> x.record());
+        }
+        if (!isPromise(47, 50)) answerOf(() -> x.breakChain(0, 1));
+        if (!isPromise(54, 58)) type(x, "^0^z1vo0");
+        if (!isPromise(59, 60)) x.bad(3, 5, true);
+        if (!isPromise(61, 66)) {
+            x.board(5, 'o');
+            x.openWire(2, 0);
+            x.shortWires(3, 4);
+        }
+        if (!isPromise(67, 69)) {
+            x.core(5, 2, 3);
+            x.core(4, 3, 3);
+        }
+        return x;
     }
 
     /** Numbers that are none of 0 to many - 1: the last ahead of them, the first behind, and the farthest. */
@@ -131,6 +171,11 @@ abstract class Checks {
     /** Lines from left to right: i, f, or a gate as a0,1; then data as d1=3 and outputs as !4. */
     static StuckatBench open(String text) {
         StuckatBench x = new StuckatBench();
+        build(x, text);
+        return x;
+    }
+
+    private static void build(StuckatBench x, String text) {
         for (String word : text.split(" ")) {
             String rest = word.substring(1);
             String[] numbers = rest.split("[,=]");
@@ -147,7 +192,6 @@ abstract class Checks {
                 x.gate(word.charAt(0), Integer.parseInt(numbers[0]), last);
             }
         }
-        return x;
     }
 
     static StuckatBench net(String text, String... patterns) {
@@ -197,7 +241,11 @@ abstract class Checks {
 
     static StuckatBench marching(String signs) {
         StuckatBench x = new StuckatBench();
-        for (char sign : signs.toCharArray()) x.march(sign);
+        type(x, signs);
         return x;
+    }
+
+    private static void type(StuckatBench x, String signs) {
+        for (char sign : signs.toCharArray()) x.march(sign);
     }
 }

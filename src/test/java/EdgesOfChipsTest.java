@@ -252,6 +252,12 @@ public final class EdgesOfChipsTest extends Checks {
                 x.mend();
                 return x;
             }, x -> x.record());
+            // What is in the chip does not fail.
+            refused(NO_ELEMENT, () -> {
+                StuckatBench x = net(AND_OR, "000");
+                x.breakChip(0);
+                return x;
+            }, x -> x.record());
         });
         test(45, "returns the tally then: 1 at the first time, and one more each time", () -> {
             StuckatBench x = FOUR.built();

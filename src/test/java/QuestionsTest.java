@@ -55,11 +55,23 @@ public final class QuestionsTest extends Checks {
 
     public static void main(String[] args) {
         for (int k = 0; k < SCENES.length; k++) {
+            ask("scene " + k, SCENES[k]);
+            // The same with a march, a board and cores, and with a march that is not right.
             Scene scene = SCENES[k];
-            test(0, "scene " + k + ": asked alone and asked in a row", () -> alike(Told.alone(scene), Told.by(scene)));
-            test(0, "scene " + k + ": asked alone and asked backwards", () -> alike(Told.alone(scene), Told.backwards(scene)));
+            ask("scene " + k + " amid others", () -> amid(scene));
+            ask("scene " + k + " with a wrong march", () -> {
+                StuckatBench x = amid(scene);
+                x.march('o');
+                x.march('z');
+                return x;
+            });
         }
         end();
+    }
+
+    private static void ask(String name, Scene scene) {
+        test(0, name + ": asked alone and asked in a row", () -> alike(Told.alone(scene), Told.by(scene)));
+        test(0, name + ": asked alone and asked backwards", () -> alike(Told.alone(scene), Told.backwards(scene)));
     }
 
     private static void alike(String[] alone, String[] others) {

@@ -209,7 +209,7 @@ final class Told {
             ask("sameAs " + k, x -> x.sameAs(wire, 'c'));
         }
         ask("badWires", x -> x.badWires('c'));
-        int[][] rooms = {{MAX, MAX}, {64, 999}, {70, 1200}};
+        int[][] rooms = {{MAX, MAX}, {64, 999}, {70, 1200}, {5, 6}, {3, 3}};
         for (int[] room : rooms) {
             ask("least " + room[0] + " " + room[1], x -> x.least(room[0], room[1]));
             for (int k = 0; k < cores; k++) {
@@ -267,7 +267,8 @@ final class Told {
         }
         askInRow("timing", timed.toArray(new Question[0]));
         askInRow("merging", y -> y.mergeAll(), y -> y.known(0, false), y -> y.merge(0, 1), y -> y.turnAbout());
-        askInRow("mending", y -> y.record(), y -> y.breakChip(0), y -> y.record(), y -> y.mend(), y -> y.breakChip(0),
+        askInRow("mending", y -> y.mend());
+        askInRow("recording", y -> y.record(), y -> y.breakChip(0), y -> y.record(), y -> y.mend(), y -> y.breakChip(0),
             y -> y.breakChip(1), y -> y.breakChip(0), y -> y.breakChain(-1, 0), y -> y.breakChain(0, 1));
     }
 
@@ -275,8 +276,8 @@ final class Told {
     private void addAll(StuckatBench x) {
         for (int k = 0; k < 33; k++) told.add("adding " + answerOf(y -> y.pattern(0, 0), x));
         for (int k = 0; k < 9; k++) told.add("adding " + answerOf(y -> y.slow(0, true), x));
-        for (int k = 1; k < Math.min(lines, 10); k++) {
-            int line = k;
+        for (int k = 0; k < 9 * 5; k++) {
+            int line = k % 5 + 1;
             told.add("adding " + answerOf(y -> y.bridge('w', line - 1, line), x));
             told.add("adding " + answerOf(y -> y.bridge('w', 0, line), x));
         }
