@@ -1,7 +1,14 @@
+import java.io.IOException;
+import java.io.UncheckedIOException;
+import java.nio.file.Files;
+import java.nio.file.Path;
+import java.util.HashSet;
 import java.util.IdentityHashMap;
 import java.util.Map;
 import java.util.NoSuchElementException;
 import java.util.Set;
+import java.util.regex.Matcher;
+import java.util.regex.Pattern;
 
 /** The means of the tests by promises: nets from short texts, and checks that tell where they fail. */
 abstract class Checks {
@@ -21,6 +28,8 @@ abstract class Checks {
 
     private static final Set<Class<?>> TOLD_OF = Set.of(ILLEGAL, INDEX, UNSUPPORTED, STATE, NO_ELEMENT, ARITHMETIC);
     private static final Map<Scene, String[]> TOLD = new IdentityHashMap<>();
+    private static final Set<String> REFUSALS = new HashSet<>();
+    private static final Pattern THROWS = Pattern.compile("Throws `(\\w+)` if");
 
     private static int toldOf;
 
@@ -69,6 +78,7 @@ abstract class Checks {
     /** The call is refused, and all that the other methods tell is behind it as it is without it. */
     static void refused(Class<?> want, Scene scene, CallOn call) {
         throwsIt(want, () -> call.answer(amid(scene)));
+        REFUSALS.add(promise + " " + want.getSimpleName());
         checks++;
         if (promise != toldOf) TOLD.clear();
         toldOf = promise;
@@ -161,6 +171,29 @@ abstract class Checks {
             if (at.getClassName().matches("\\w+Test(\\$.*)?")) return at.getFileName() + ":" + at.getLineNumber();
         }
         return "?";
+    }
+
+    /** What the document writes, each row of blanks being one. */
+    static String document() {
+        try {
+            return Files.readString(Path.of("..", "shared", "DOC.md")).replaceAll("\\s+", " ");
+        } catch (IOException e) {
+            throw new UncheckedIOException(e);
+        }
+    }
+
+    /** Each exception that the document tells of, from a promise to another one, was seen to be thrown. */
+    static void allRefused(int from, int to) {
+        sentence = ", each exception that is told";
+        String text = document();
+        for (promise = from; promise <= to; promise++) {
+            int next = text.indexOf("## Promise " + (promise + 1) + ":");
+            Matcher told = THROWS.matcher(text).region(text.indexOf("## Promise " + promise + ":"), next < 0 ? text.length() : next);
+            while (told.find()) {
+                checks++;
+                if (!REFUSALS.contains(promise + " " + told.group(1))) wrong("no test has " + told.group(1));
+            }
+        }
     }
 
     static void end() {

@@ -52,6 +52,8 @@ public final class EdgesOfChipsTest extends Checks {
         orders();
         escapes();
         soundness();
+        allRefused(40, 53);
+        allRefused(71, 71);
         end();
     }
 

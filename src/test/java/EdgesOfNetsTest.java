@@ -26,6 +26,8 @@ public final class EdgesOfNetsTest extends Checks {
         bridges();
         bridgeOrder();
         slows();
+        allRefused(1, 8);
+        allRefused(12, 18);
         end();
     }
 

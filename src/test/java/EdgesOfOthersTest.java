@@ -62,6 +62,7 @@ public final class EdgesOfOthersTest extends Checks {
         cores();
         least();
         begins();
+        allRefused(54, 69);
         end();
     }
 

@@ -57,6 +57,9 @@ public final class EdgesOfPatternsTest extends Checks {
         ways();
         hardest();
         means();
+        allRefused(9, 11);
+        allRefused(19, 39);
+        allRefused(70, 70);
         end();
     }
 

@@ -63,6 +63,10 @@ final class Plain {
         return sources().size();
     }
 
+    boolean isCell(int line) {
+        return lines.get(line).kind == 'f';
+    }
+
     // ---- checks
 
     private void line(int line) {

@@ -9,7 +9,6 @@ import java.util.Random;
 /** Runs of calls, the same ones each time, answered by a StuckatBench and by Plain alike. */
 public final class RandomRunsTest {
     private static final int RUNS = 1500;
-    private static final String[] NET_CALLS = {"input", "cell", "gate", "data", "output"};
     private static final Map<String, Method> REAL = new HashMap<>();
     private static final Map<String, Method> PLAIN = new HashMap<>();
     private static final List<String> NAMES = new ArrayList<>();
@@ -63,23 +62,34 @@ public final class RandomRunsTest {
         int sources = 1 + random.nextInt(isBig ? 9 : 5);
         int gates = random.nextInt(isBig ? 25 : 12);
         if (random.nextInt(6) == 0 && !misuse(10)) return false;
-        for (int i = 0; i < sources; i++) {
-            if (!call(random.nextInt(3) == 0 ? "cell" : "input")) return false;
+        if (!lines(sources, gates)) return false;
+        for (int i = 0; i < sources + gates; i++) {
+            if (plain.isCell(i) && !call("data", i, random.nextInt(sources + gates))) return false;
         }
-        for (int i = 0; i < gates; i++) {
-            int lines = sources + i;
-            int a = random.nextInt(3) == 0 ? random.nextInt(lines) : Math.max(0, lines - 1 - random.nextInt(4));
-            if (!call("gate", pick("aonrxbvaonr"), a, random.nextInt(lines))) return false;
-        }
-        for (int i = 0; i < sources; i++) {
-            if (!call("data", i, random.nextInt(sources + gates))) return false;
-        }
+        if (random.nextInt(10) == 0 && !call("data", 0, 0)) return false;
         for (int i = 0; i < 1 + random.nextInt(3); i++) {
             if (!call("output", Math.max(0, sources + gates - 1 - random.nextInt(4)))) return false;
         }
         if (random.nextInt(10) == 0 && !misuse(10)) return false;
         if (!call("close")) return false;
         return misuse(isBig ? 60 : 150);
+    }
+
+    /** Sources ahead of all gates, or here and there amid them. */
+    private static boolean lines(int sources, int gates) throws Exception {
+        boolean isMixed = random.nextInt(3) == 0;
+        int left = sources;
+        for (int line = 0; line < sources + gates; line++) {
+            boolean isSource = left > 0 && (!isMixed || line == 0 || left == sources + gates - line || random.nextInt(3) == 0);
+            if (isSource) {
+                left--;
+                if (!call(random.nextInt(3) == 0 ? "cell" : "input")) return false;
+            } else {
+                int near = random.nextInt(3) == 0 ? random.nextInt(line) : Math.max(0, line - 1 - random.nextInt(4));
+                if (!call("gate", pick("aonrxbvaonr"), near, random.nextInt(line))) return false;
+            }
+        }
+        return true;
     }
 
     private static boolean misuse(int many) throws Exception {
