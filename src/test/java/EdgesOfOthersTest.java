@@ -186,6 +186,11 @@ public final class EdgesOfOthersTest extends Checks {
             is(marching("^0z").marchFinds('s', 3, 0, 1, 0), true);
             is(marching("^0z").marchFinds('s', 3, 0, 0, 0), false);
             is(marching("^0").marchFinds('s', 3, 0, 1, 0), false);
+            // The cell 5 becomes 1 twice where it is 0 at first, and turns the cell 0 back; once where it is 1.
+            is(marching("^101^o").marchFinds('i', 5, 0, 1, 0), false);
+            is(marching("^101^o").marchFinds('i', 0, 5, 1, 0), false);
+            is(marching("^010^z").marchFinds('i', 5, 0, 0, 0), false);
+            is(marching("^01^o").marchFinds('i', 5, 0, 1, 0), true);
         });
     }
 
@@ -378,6 +383,21 @@ public final class EdgesOfOthersTest extends Checks {
             x.bad(7, 6, true);
             is(x.repair(1, 2), 128);
             is(x.repair(0, 2), 0);
+        });
+        test(60, "the fewest may be as many as 14, if no fewer ones are spared", () -> {
+            // All are bad but the last one of the first row: seven rows, and seven columns for that row.
+            StuckatBench x = new StuckatBench();
+            for (int k = 0; k < 64; k++) x.bad(k / 8, k % 8, k != 7);
+            is(x.repair(7, 7), 254);
+            throwsIt(NO_ELEMENT, () -> x.repair(7, 6));
+            throwsIt(NO_ELEMENT, () -> x.repair(6, 7));
+            is(x.repair(7, 8), 0);
+            is(x.repair(8, 6), 255);
+            // Three rows that need six columns, and five rows that need all of them.
+            StuckatBench y = new StuckatBench();
+            for (int k = 0; k < 64; k++) y.bad(k / 8, k % 8, k / 8 > 2 || k % 8 < 6);
+            is(y.repair(5, 6), 8 + 16 + 32 + 64 + 128);
+            throwsIt(NO_ELEMENT, () -> y.repair(5, 5));
         });
         test(60, "of several, the least sum of its rows", () -> {
             StuckatBench x = new StuckatBench();

@@ -715,6 +715,15 @@ public final class EdgesOfPatternsTest extends Checks {
             for (int pattern : outside(2)) refused(INDEX, scene, x -> x.power(pattern));
             refused(INDEX, NEW, x -> x.power(0));
         });
+        test(29, "sources alone count, of 40 lines, too", () -> {
+            StuckatBench x = open("i i i i i i i i i i i i !0");
+            for (int k = 12; k < 40; k++) x.gate('v', k - 1, 0);
+            x.close();
+            add(x, "101010101010");
+            add(x, "100000000000");
+            is(x.power(0), 66);
+            is(x.power(1), 1);
+        });
         test(29, "none are unlike, or all of 12 are", () -> {
             StuckatBench x = inputs(12, "010101010101", "101010101010", "000000000000", "????????????", "000000000001",
                 "011111111111");
@@ -829,6 +838,17 @@ public final class EdgesOfPatternsTest extends Checks {
             is(inputs(3, "???").seedFor(0), 0);
             is(inputs(3, "000").seedFor(0), 0);
             is(inputs(3, "?0?").seedFor(0), 0);
+        });
+        test(33, "sources alone are pressed, of 40 lines, too", () -> {
+            // 4 brings in a 1 first; behind 33 steps, as behind 3, a 0 comes in.
+            StuckatBench x = closed(rowOf(40));
+            add(x, "1");
+            is(x.seedFor(0), 4);
+            StuckatBench y = open("i i i i i i i i i i i i !0");
+            for (int k = 12; k < 40; k++) y.gate('v', k - 1, 0);
+            y.close();
+            add(y, "1???????????");
+            is(y.seedFor(0), 4);
         });
         test(33, "up to all bits of 16", () -> {
             StuckatBench x = inputs(12, "111111111111", "???????????1", "1???????????");
